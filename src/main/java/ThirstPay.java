@@ -308,7 +308,7 @@ public final class ThirstPay {
         int above = thought.setsWithin(now.belly[carrier]);
         int below = now.allFarms();
         int shared = commonDivisor(above, below);
-        return (part == 0 ? above : below) / (shared < 1 ? 1 : shared);
+        return (part == 0 ? above : below) / Math.max(1, shared);
     }
 
     public int whose(int v, int what) {
@@ -562,7 +562,6 @@ public final class ThirstPay {
             beOfKind(km);
             this.steps = steps;
             this.herd = herd;
-            // The place may hold what a FARM was that an IMAGE has taken back.
             dry = 0;
             eased = 0;
         }

@@ -177,6 +177,9 @@ public final class PromisesTest {
         ThirstPay x = new ThirstPay();
         x.farm(49, 1, 30);
         due(3, "GROWTH is held at 9", x.farmIs(0, 6), 9);
+        x.become(0, 41);
+        x.graze(0, 11);
+        due(3, "GROWTH of a BULL", x.farmIs(0, 6), 1 + 2 + 1);
     }
 
     private static void farmIsPay() {
@@ -661,6 +664,9 @@ public final class PromisesTest {
         due(22, "behind 72", slow.first(71, 1), 72);
         due(22, "not by 72", slow.first(72, 1), NONE);
         due(22, "only thought", slow.farmIs(0, 4), 0);
+        slow.become(0, 20);
+        slow.hour(6);
+        due(22, "a SCHOOL at 6, 7, 8, 9", slow.first(5, 1), 4);
     }
 
     private static void round() {
@@ -684,6 +690,10 @@ public final class PromisesTest {
         ThirstPay none = new ThirstPay();
         none.carrier(5);
         due(23, "no FARMS", none.round(0, 0), 0);
+        none.farm(0, 1, 0);
+        none.farm(60, 1, 0);
+        due(23, "the first alone", none.round(0, 0), 1);
+        due(23, "PAY is 1", none.round(0, 1), 1);
     }
 
     private static void dueFewest(ThirstPay x, int above, int... want) {
@@ -753,6 +763,9 @@ public final class PromisesTest {
         due(26, "none", x.whose(15, 1), NONE);
         due(26, "none", x.whose(Integer.MAX_VALUE, 1), NONE);
         due(26, "all", x.whose(60, 1), 7);
+        due(26, "all", x.whose(60, 0), 2);
+        due(26, "the first", x.whose(10, 0), 2);
+        due(26, "the first", x.whose(10, 1), 1);
         due(26, "beyond", x.whose(-1, 0), BEYOND);
         due(26, "beyond", x.whose(0, 2), BEYOND);
         due(26, "beyond", x.whose(0, -1), BEYOND);
@@ -783,6 +796,11 @@ public final class PromisesTest {
         x.sheet(0, 8, 0);
         due(27, "nothing told", x.fits(0), 0);
         due(27, "only thought", x.farmIs(1, 4), 0);
+        x.become(0, 20);
+        x.hour(6);
+        sheet(x, 0, 8, 6);
+        due(27, "a SCHOOL at 6, 7, 8, 9", x.fits(0), 4);
+        x.hour(0);
         due(27, "only thought", x.count(2), 0);
     }
 
@@ -833,13 +851,18 @@ public final class PromisesTest {
         ThirstPay x = new ThirstPay();
         x.farm(33, 1, 0);
         x.farm(0, 1, 0);
+        x.farm(10, 1, 0);
+        x.farm(47, 1, 0);
+        x.become(2, 19);
+        due(28, "parts of a DAIRY", x.voice(2, 3, 15), 15 / 7 + 2 * (1 + 2 - 4));
+        due(28, "sighs of a BULL", x.voice(3, 2, 7), 29 ^ 3);
         due(28, "x / 2 is cut toward 0", x.voice(0, 2, -3), -1 * 2 - 3);
         due(28, "parts is cut toward 0", x.voice(0, 3, -5), -1);
         due(28, "ints wrap", x.voice(1, 0, Integer.MAX_VALUE), Integer.MIN_VALUE);
         due(28, "ints wrap", x.voice(1, 3, Integer.MIN_VALUE), Integer.MIN_VALUE);
         due(28, "any number", x.voice(1, 0, BEYOND - 1), BEYOND);
         due(28, "which is no ERROR", x.told(1), 0);
-        due(28, "beyond", x.voice(2, 0, 0), BEYOND);
+        due(28, "beyond", x.voice(4, 0, 0), BEYOND);
         due(28, "beyond", x.voice(-1, 0, 0), BEYOND);
         due(28, "beyond", x.voice(0, 4, 0), BEYOND);
         due(28, "beyond", x.voice(0, -1, 0), BEYOND);
@@ -927,6 +950,8 @@ public final class PromisesTest {
         due(32, "to the same, down", x.move(0, 1, 0, 0, 4), 4);
         dueFits(x, 0, 1, 2, 3, 4, 4);
         due(32, "none", x.move(0, 5, 1, 3, 0), 0);
+        due(32, "a whole row", x.move(0, 0, 0, 0, 5), 5);
+        dueFits(x, 0, 1, 2, 3, 4, 4);
         due(32, "no such SHEET", x.move(4, 0, 1, 0, 1), BEYOND);
         due(32, "no such SHEET", x.move(0, 0, -1, 0, 1), BEYOND);
         due(32, "missing", x.move(3, 0, 0, 0, 1), NONE);
@@ -1003,7 +1028,7 @@ public final class PromisesTest {
         x.parch(1, 40);
         x.carrier(300);
         x.pool(1, 500);
-        x.carry(1, 2, 1);
+        x.carry(1, 3, 1);
         x.hours(72);
         x.loose(3);
         x.untell(1);
