@@ -265,7 +265,7 @@ public final class ThirstPay {
         if (!isFarm(farm) || !within(n, 0, MOST_AHEAD)) {
             return refuse(BEYOND);
         }
-        return thought.dryThen(now.farms[farm], n);
+        return thought.dryThen(farm, n);
     }
 
     public int first(int x, int what) {
@@ -756,16 +756,12 @@ public final class ThirstPay {
             this.world = world;
         }
 
-        int dryThen(Farm farm, int n) {
-            int v = farm.dry;
-            for (int i = 0; i < n; i++) {
-                v = dryAfterAnHour(farm, v, world.hour + i);
+        int dryThen(int farm, int n) {
+            startAhead();
+            for (int ahead = 0; ahead < n; ahead++) {
+                goAhead(world.hour + ahead);
             }
-            return v;
-        }
-
-        private int dryAfterAnHour(Farm farm, int v, int hour) {
-            return Math.min(MOST_DRY, v + world.growthOf(farm, v, hour));
+            return within(farm, 0, MOST_FARMS - 1) ? dry[farm] : 0;
         }
 
         private void startAhead() {
@@ -776,7 +772,7 @@ public final class ThirstPay {
 
         private void goAhead(int hour) {
             for (int i = 0; i < world.farmCount; i++) {
-                dry[i] = dryAfterAnHour(world.farms[i], dry[i], hour);
+                dry[i] = Math.min(MOST_DRY, dry[i] + world.growthOf(world.farms[i], dry[i], hour));
             }
         }
 
