@@ -857,7 +857,7 @@ public final class ModelTest {
             same(x, m, run, 0, 0, below(70), 1 + below(40), below(31));
         }
         int most = run % 3 == 0 ? 60 : 300;
-        for (int calls = farms; calls < CALLS - 12;) {
+        for (int calls = farms; calls < CALLS - 24;) {
             int special = below(40);
             if (special == 0) {
                 calls += tellText(x, m, run);

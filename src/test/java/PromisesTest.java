@@ -1,22 +1,5 @@
 /** Each promise of the document by itself: ordinary inputs, the edges that it names, wrong inputs. */
-public final class PromisesTest {
-    private static final int LOW = -1000000000;
-    private static final int BEYOND = LOW - 1;
-    private static final int NONE = LOW - 2;
-    private static final int STATE = LOW - 3;
-    private static final int FULL = LOW - 4;
-    private static final int KIND = LOW - 5;
-    private static final int PARTED = LOW - 6;
-
-    private static int wrong = 0;
-
-    private static void due(int promise, String what, int got, int want) {
-        if (got != want) {
-            wrong++;
-            System.out.println("promise " + promise + ": " + what + " answered " + got + ", due is " + want);
-        }
-    }
-
+public final class PromisesTest extends Checks {
     public static void main(String[] args) {
         newObject();
         farm();
@@ -60,43 +43,7 @@ public final class PromisesTest {
         count();
         told();
         refusalsChangeNothing();
-        System.out.println(wrong == 0 ? "PromisesTest: all answers are as due" : wrong + " answers are not as due");
-        if (wrong != 0) {
-            System.exit(1);
-        }
-    }
-
-    private static void feed(ThirstPay x, String text) {
-        for (int i = 0; i < text.length(); i++) {
-            x.feed(text.charAt(i), 1);
-        }
-    }
-
-    private static int text(ThirstPay x, int use, String text) {
-        feed(x, text);
-        return x.text(use);
-    }
-
-    private static ThirstPay dryFarms(int... dry) {
-        ThirstPay x = new ThirstPay();
-        for (int i = 0; i < dry.length; i++) {
-            x.farm(0, 1, 0);
-            x.parch(i, dry[i]);
-        }
-        return x;
-    }
-
-    private static void carriers(ThirstPay x, int... bellies) {
-        for (int belly : bellies) {
-            x.carrier(belly);
-        }
-    }
-
-    private static void sheet(ThirstPay x, int sheet, int bits, int... numbers) {
-        x.sheet(sheet, bits, numbers.length);
-        for (int i = 0; i < numbers.length; i++) {
-            x.put(sheet, i, numbers[i]);
-        }
+        end("PromisesTest");
     }
 
     private static void newObject() {
